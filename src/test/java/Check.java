@@ -19,6 +19,12 @@ final class Check {
         }
     }
 
+    /** Counts what another one asked, too. */
+    void take(Check other) {
+        asked += other.asked;
+        wrong += other.wrong;
+    }
+
     /** Ends the test: exit code 1 if something was wrong, or if nothing was asked. */
     void end(String test) {
         System.out.println(test + ": " + asked + " asked, " + wrong + " wrong");
