@@ -2,9 +2,10 @@ import java.util.ArrayList;
 import java.util.List;
 
 /**
- * Every call of the face with every choice of arguments in and just around their
- * bounds, in objects that are empty, filled or full: the answer is the model's,
- * and behind a refusal, or a call that only looks, the digest is as it was.
+ * Every call of the face but letters() (StairEdgesTest has its bytes) with every
+ * choice of arguments in and just around their bounds, in objects that are empty,
+ * filled or full: the answer is the model's, and behind a refusal, or a call that
+ * only looks, the digest is as it was.
  */
 public final class SweepTest {
     /** A call and, for each argument, the least and the greatest that is as told. */
