@@ -3,11 +3,15 @@ import java.util.Random;
 /**
  * Long rows of chosen calls, right and wrong ones, on the class and on the
  * model: each answer is the same, and so is the digest, behind refusals too.
- * The rows are drawn by set seeds, so each run asks the same.
+ * An object is promised for 512 calls, so each row has just as many, and its
+ * last is a digest. The rows are drawn by set seeds: each run asks the same.
  */
 public final class ModelTest {
     private static final int ROWS = 700;
-    private static final int CALLS = 500;
+    private static final int CALLS = 512;
+
+    /** A new stair with its boats is the longest part of a row. */
+    private static final int MOST_AT_ONCE = 10;
 
     private final Random draw;
     private final Check check;
@@ -15,7 +19,7 @@ public final class ModelTest {
     private final Model model = new Model();
     private final int row;
     private final boolean muddy;
-    private int step;
+    private int made;
 
     private ModelTest(int row, Check check) {
         this.row = row;
@@ -27,17 +31,30 @@ public final class ModelTest {
     public static void main(String[] args) {
         Check check = new Check();
         for (int row = 0; row < ROWS; row++) {
-            ModelTest test = new ModelTest(row, check);
-            for (test.step = 0; test.step < CALLS; test.step += 2) {
-                test.call();
-                test.same("digest()", test.x.digest(), test.model.digest());
-            }
+            new ModelTest(row, check).wholeRow();
         }
         check.end("ModelTest");
     }
 
+    private void wholeRow() {
+        while (made + MOST_AT_ONCE < CALLS) {
+            call();
+            digest();
+        }
+        while (made < CALLS - 1) {
+            oneCall(10 + draw.nextInt(82));
+        }
+        digest();
+        check.due("calls of row " + row, made, CALLS);
+    }
+
+    private void digest() {
+        same("digest()", x.digest(), model.digest());
+    }
+
     private void same(String call, long got, long want) {
-        check.due("row " + row + ", call " + step + ": " + call, got, want);
+        made++;
+        check.due("row " + row + ", call " + made + ": " + call, got, want);
     }
 
     /** Mostly from low to high, now and then beyond, or far away. */
@@ -67,23 +84,29 @@ public final class ModelTest {
     }
 
     private void call() {
-        if (step == 0 && draw.nextInt(8) > 0) {
+        if (made == 0 && draw.nextInt(8) > 0) {
             newStair();
             return;
         }
         int n = draw.nextInt(100);
         if (n < 10) {
             paper(draw.nextInt(40));
-        } else if (n < 45) {
+        } else if (n < 92) {
+            oneCall(n);
+        } else {
+            whole(draw.nextInt(4));
+        }
+    }
+
+    private void oneCall(int n) {
+        if (n < 45) {
             boats(draw.nextInt(8));
         } else if (n < 60) {
             told(draw.nextInt(6));
         } else if (n < 75) {
             wouldBe(draw.nextInt(5));
-        } else if (n < 92) {
-            mudLines(draw.nextInt(12));
         } else {
-            whole(draw.nextInt(4));
+            mudLines(draw.nextInt(12));
         }
     }
 
@@ -104,13 +127,13 @@ public final class ModelTest {
 
     /** Mostly a boat that is there. */
     private int someBoat() {
-        int there = Math.max(1, x.count(1));
+        int there = Math.max(1, model.count(1));
         return draw.nextInt(10) == 0 ? some(0, 4) : draw.nextInt(there);
     }
 
     /** Mostly a basin that is there. */
     private int someBasin() {
-        int there = Math.max(1, x.count(0));
+        int there = Math.max(1, model.count(0));
         return draw.nextInt(10) == 0 ? some(0, 3) : draw.nextInt(there);
     }
 
