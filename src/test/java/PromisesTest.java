@@ -36,6 +36,7 @@ public final class PromisesTest {
         imageAndRestore();
         count();
         digest();
+        exampleOfReadme();
         CHECK.end("PromisesTest");
     }
 
@@ -800,5 +801,20 @@ public final class PromisesTest {
         due("with lines", x.digest(), folded(5, 3, 5, -1, 4, 2, 2, 1, 4, 3, 2, 3, 4, 0, 0, 1, 1, 1,
                 2, 0, 1, '1', 2, 1, 2, 1, 2, 1, 1, 0));
         due("it changes nothing", x.digest(), x.digest());
+    }
+
+    /** README.md shows these calls with these answers. */
+    private static void exampleOfReadme() {
+        promise = 15;
+        WaterShoulders x = new WaterShoulders();
+        due("letters of 32/30", x.letters(0x30332f3233L), 5);
+        due("stair()", x.stair(), 2);
+        int carrier = x.boat(3, 0, 3);
+        int boat = x.boat(0, 2, 0);
+        due("fewest(boat, carrier, 0)", x.fewest(boat, carrier, 0), 3);
+        due("fewest(boat, carrier, 1)", x.fewest(boat, carrier, 1), 12);
+        due("take(carrier, 2)", x.take(carrier, 2), 2);
+        due("pour(carrier, 1)", x.pour(carrier, 1), 0);
+        due("rise(boat)", x.rise(boat), 1);
     }
 }

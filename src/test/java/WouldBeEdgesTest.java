@@ -90,6 +90,8 @@ public final class WouldBeEdgesTest {
         row(20, 13, "boat(3, 0, 3); boat(0, 5, 0)");
         row(11, 14, "boat(4, 0, 3); boat(0, 4, 0)");
         row(-1, -1, "boat(4, 0, 2); boat(2, 5, 0)");
+        // the start with the longest queue that was found, see NOTES.md
+        row(11, 0, "boat(4, 0, 3); boat(0, 5, 0); take(0, 5); pour(0, 1); take(0, 3); rise(0)");
     }
 
     private static void fewestTakesWhatIsThere() {
